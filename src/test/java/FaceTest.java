@@ -52,11 +52,15 @@ public final class FaceTest {
                 + ") throws " + names(m.getExceptionTypes());
     }
 
-    public static void main(String[] args) throws Exception {
-        Class<BinStreams> face = BinStreams.class;
+    private static void kindOfClass(Class<BinStreams> face) {
         due("the class", Modifier.toString(face.getModifiers()), "public final");
-        due("WRONG", BinStreams.WRONG, 100000);
+        due("its package", face.getPackageName(), "");
+        due("what it extends", face.getSuperclass(), Object.class);
+        due("what it implements", face.getInterfaces().length, 0);
+        due("its type parameters", face.getTypeParameters().length, 0);
+    }
 
+    private static void methods(Class<BinStreams> face) {
         Set<String> seen = new TreeSet<>();
         Set<String> publicNames = new TreeSet<>();
         Set<String> privateNames = new TreeSet<>();
@@ -72,13 +76,35 @@ public final class FaceTest {
         due("the methods", seen, new TreeSet<>(Arrays.asList(METHODS)));
         privateNames.retainAll(publicNames);
         due("private methods with a public one's name", privateNames, Set.of());
+    }
 
+    private static void fields(Class<BinStreams> face) throws Exception {
+        due("WRONG", BinStreams.WRONG, 100000);
+        due("WRONG's type", face.getField("WRONG").getType(), int.class);
+        due("WRONG's modifiers", Modifier.toString(face.getField("WRONG").getModifiers()), "public static final");
+        due("how many public fields", face.getFields().length, 1);
         for (Field f : face.getDeclaredFields()) {
-            String want = f.getName().equals("WRONG") ? "public static final" : "private";
-            due(f.getName() + "'s modifiers", Modifier.toString(f.getModifiers()).startsWith(want), true);
+            if (!f.getName().equals("WRONG")) {
+                due(f.getName() + " is private", Modifier.isPrivate(f.getModifiers()), true);
+            }
             due(f.getName() + " is final where it is static",
                     !Modifier.isStatic(f.getModifiers()) || Modifier.isFinal(f.getModifiers()), true);
         }
+    }
+
+    private static void classesInside(Class<BinStreams> face) {
+        for (Class<?> inside : face.getDeclaredClasses()) {
+            int kind = inside.getModifiers();
+            due(inside.getName() + " can be seen", Modifier.isPublic(kind) || Modifier.isProtected(kind), false);
+        }
+    }
+
+    public static void main(String[] args) throws Exception {
+        Class<BinStreams> face = BinStreams.class;
+        kindOfClass(face);
+        methods(face);
+        fields(face);
+        classesInside(face);
         Constructor<?>[] makers = face.getDeclaredConstructors();
         due("how many constructors", makers.length, 1);
         due("the constructor", makers[0].toString(), "public BinStreams()");

@@ -1,13 +1,27 @@
+import java.io.IOException;
+import java.math.BigInteger;
+import java.nio.file.Files;
+import java.nio.file.Path;
 import java.util.ArrayList;
 import java.util.List;
+import java.util.Map;
+import java.util.TreeMap;
 
 /**
- * Each sentence of the document that names a boundary case, on both sides of the boundary; and each reason for an
- * exception: that it is thrown, that nothing has changed after it, and that the one named first goes before others.
+ * The document from its first line: each of its sentences is quoted, with rows that fail if it is broken, on both sides
+ * of each boundary; and for each reason for an exception: that it is thrown, that nothing has changed after it, and
+ * that the one named first goes before others. In the end the quotes are laid over the document: nothing of it may be
+ * left without rows.
  *
  * Runs of calls are written as texts: "start; 12* mark; put 3 1; passes 1100" (a call for each bin of the last).
  */
 public final class SentenceTest {
+    private static final Path DOCUMENT = Path.of("../shared/DOC.md");
+    /** The title; the face, which FaceTest has; and what is free. */
+    private static final List<String> ELSEWHERE = List.of("# BinStreams", "The public face", "Not promised");
+    /** TableTest has them. */
+    private static final String TABLES = "THE TABLE R, .* 37 38 38 ";
+    private static final String FREE = "what later calls answer is free.";
     private static final int MOST_CALLS = 512;
     private static final String INDEX = "throws.IndexOutOfBoundsException";
     private static final String ARGUMENT = "throws.IllegalArgumentException";
@@ -56,7 +70,13 @@ public final class SentenceTest {
 
     private static int wrong = 0;
     private static int rows = 0;
+    private static String chapter = "";
     private static String sentence = "";
+    private static final List<Quote> QUOTES = new ArrayList<>();
+
+    /** A part of the document as it stands there, and how many rows there had been before its own. */
+    private record Quote(String chapter, String text, int rowsBefore) {
+    }
 
     /** One object, and how many calls it has had. */
     private static final class Asked {
@@ -127,6 +147,16 @@ public final class SentenceTest {
             else if (w[0].equals("abouts")) for (int i = 0; i <= 31; i++) all.add("about " + w[1] + " " + i);
             else all.add(part);
         }
+    }
+
+    /** The rows behind this are the test of what is quoted. */
+    private static void says(String quote) {
+        says(quote, "");
+    }
+
+    private static void says(String quote, String look) {
+        sentence = chapter + ", \"" + quote + "\"" + (look.isEmpty() ? "" : " (" + look + ")");
+        QUOTES.add(new Quote(chapter, quote, rows));
     }
 
     private static void due(String what, String got, String want) {
@@ -211,10 +241,71 @@ public final class SentenceTest {
         return "start; passes " + bins + "; finish; load";
     }
 
+    // ---- What it is
+
+    private static void whatItIs() {
+        chapter = "What it is";
+        says("Streams of bins, coded by an arithmetic coder whose contexts learn: decisions, bins that go by, marks, "
+                + "and numbers as rows of bins;");
+        row("start", "put 4 1; pass 1; mark; golomb 0 true -7; unary 0 5 4; engine 4; about false 4",
+                "done done done 7 5 15 1");
+        says("a writer that carries bits which are not certain yet,", "two bits wait, and become 00 or 11");
+        writer("start; passes 1100", "510 488 2 4 4");
+        bytes("start; passes 11001; finish", "207 44");
+        bytes("start; passes 110000000; finish", "191 191 64");
+        says("a reader that follows it,");
+        row("start; put 4 1; pass 1; mark; golomb 0 true -7; unary 0 5 4; finish; load",
+                "get 4; getPass; ended; getGolomb 0 true; getUnary 0 5; ended; about true 4", "1 1 false -7 4 true 1");
+        says("and bytes between them that may be altered.");
+        row("start; passes 1011; finish; alter 0 0; load", "4* getPass", "0 0 0 0");
+        row("start; passes 1011; finish; load; alter 0 0", "4* getPass; load; 4* getPass", "1 0 1 1 true 0 0 0 0");
+    }
+
+    /** Bin n of what the stream with no bins has behind its start: its first offset is 509, and its range stays 510. */
+    private static String binOfEmptyStream(int n) {
+        BigInteger all = BigInteger.valueOf(509).shiftLeft(n).divide(BigInteger.valueOf(510));
+        return all.testBit(0) ? "1" : "0";
+    }
+
+    /** The 512th call of an object: what went before it is filled up with calls that change nothing. */
+    private static void last(String run, String call, String want) {
+        Asked object = after(run);
+        while (object.calls < MOST_CALLS - 1) object.ask("size");
+        due(run + "; .. ; " + call + " as the 512th call", object.ask(call), want);
+    }
+
+    private static void calls() {
+        says("An object is used for at most 512 calls after it has been made;");
+        last("510* set 31 62 0; start", "about false 31", "124");
+        last("511* start", "start", "done");
+        last("start; finish; ".repeat(255) + "start", "finish", "2");
+        last("start; 400* mark", "engine 4", "400");
+        last("start; 399* put 3 0", "put 3 0", "done");
+        last("start; 399* pass 1", "pass 1", "done");
+        last("start; 399* mark", "mark", "done");
+        last("start; 122* golomb 0 true 1; 31* pass 0", "golomb 0 true 1", "3");
+        last("start; 132* unary 5 3 3; pass 0", "unary 5 3 3", "3");
+        last("start; 7* pass 0", "finish", "2");
+        last("start; 6* pass 0; finish", "at 1", "250");
+        last("start; finish; 508* alter 0 255", "load", "false");
+        last("start; finish; 509* load", "load", "true");
+        last("start; finish; load; 508* getPass", "getPass", binOfEmptyStream(509));
+        last("start; finish; load; 507* getPass", "getPass", binOfEmptyStream(508));
+        last("start; put 7 1; finish; load", "get 7", "1");
+        last("start; golomb 4 true -9; finish; load", "getGolomb 4 true", "-9");
+        last("start; unary 7 9 5; finish; load", "getUnary 7 9", "5");
+        last("start; finish; load", "ended", "true");
+        says("An object is used for at most 512 calls after it has been made;", "refused ones among them");
+        last("start; finish", "pass 1", STATE);
+        Asked object = after("start; pass 1");
+        due("505 calls that are refused", object.askAll("505* put 32 0"), (INDEX + " ").repeat(505).trim());
+        due("5 calls behind them", object.askAll("finish; load; getPass; ended; size"), "2 true 1 true 2");
+    }
+
     // ---- Terms
 
     private static void bins() {
-        sentence = "A BIN is 0 or 1";
+        says("A BIN is 0 or 1.");
         writer("start; put 0 0", "270 0 0 0 1");
         writer("start; put 0 1", "480 28 1 1 1");
         writer("start; pass 0", "510 0 0 1 1");
@@ -229,7 +320,7 @@ public final class SentenceTest {
     }
 
     private static void contexts() {
-        sentence = "CONTEXTS are 0 .. 31";
+        says("CONTEXTS are 0 .. 31;");
         for (int c : new int[] {0, 31}) {
             row("set " + c + " 7 1; start", "about false " + c, "15");
             row("start; put " + c + " 1", "about false " + c, "1");
@@ -242,7 +333,7 @@ public final class SentenceTest {
             refused(MIDDLE, "about false " + none, INDEX);
             refused(MIDDLE, "about true " + none, INDEX);
         }
-        sentence = "writer and reader have contexts of their own";
+        says("writer and reader have contexts of their own.");
         String read = "set 4 10 0; start; put 4 1; put 4 1; finish; set 4 20 1; load";
         row(read, "about false 4; about true 4", "12 41");
         row(read + "; get 4", "about false 4", "12");
@@ -250,11 +341,11 @@ public final class SentenceTest {
     }
 
     private static void states() {
-        sentence = "a STATE 0 .. 62";
+        says("each has a STATE 0 .. 62 and a LIKELY bin;");
         row("set 5 0 0; start", "about false 5", "0");
         row("set 5 62 0; start", "about false 5", "124");
         for (int none : new int[] {-1, 63, LEAST, LAST}) refused(MIDDLE, "set 5 " + none + " 0", ARGUMENT);
-        sentence = "START states are set, at first 0 and 0";
+        says("START states are set, at first 0 and 0;");
         row("start", "abouts false", "0 ".repeat(32).trim());
         row("start; finish; load", "abouts true", "0 ".repeat(32).trim());
     }
@@ -267,7 +358,7 @@ public final class SentenceTest {
     }
 
     private static void learning() {
-        sentence = "LEARNING: when the bin is the likely one, the state grows by 1, but not beyond 62";
+        says("LEARNING. When the bin is the likely one, the state grows by 1, but not beyond 62.");
         learns(0, 0, 0, 2);
         learns(0, 1, 1, 3);
         learns(60, 0, 0, 122);
@@ -275,24 +366,25 @@ public final class SentenceTest {
         learns(62, 0, 0, 124);
         learns(61, 1, 1, 125);
         learns(62, 1, 1, 125);
-        sentence = "LEARNING: otherwise, if the state is 0, the other bin is the likely one from now on";
+        says("Otherwise, if the state is 0, the other bin is the likely one from now on;");
         learns(0, 0, 1, 1);
         learns(0, 1, 0, 0);
         learns(1, 0, 1, 0);
         learns(1, 1, 0, 1);
         learns(2, 0, 1, 2);
         row("start; put 9 1; put 9 1", "about false 9", "3");
-        sentence = "LEARNING: then the state s becomes T(s)";
+        says("then the state s becomes T(s).");
         learns(61, 0, 1, 76);
         learns(62, 0, 1, 76);
         learns(62, 1, 0, 77);
-        sentence = "LEARNING is for decisions alone";
+        says("LEARNING.", "which is for decisions alone");
         row("set 0 7 1; start; pass 1; pass 0; golomb 0 false 9; mark; finish", "about false 0", "15");
         row("set 0 7 1; " + loadedPasses("10") + "; getPass; getPass; ended", "about true 0", "15");
     }
 
     private static void writerStarts() {
-        sentence = "THE WRITER has a RANGE and a LOW, 510 and 0 when it starts, no WAITING bits, no SHIFTS";
+        says("THE WRITER has a RANGE and a LOW, 510 and 0 when it starts, WAITING bits, at first 0, and SHIFTS, at "
+                + "first 0.");
         writer("", "0 0 0 0 0");
         writer("start", "510 0 0 0 0");
         writer(MIDDLE + "; start", "510 0 0 0 0");
@@ -301,18 +393,18 @@ public final class SentenceTest {
     }
 
     private static void giving() {
-        sentence = "TO GIVE a bit: it is written, but for the first one since the start";
+        says("TO GIVE a bit: it is written, but for the first one since the start, which is left out;");
         bytes("start; finish", "254 128");
         bytes("start; pass 0; finish", "127 64");
         bytes("start; passes 00; finish", "63 160");
-        sentence = "TO GIVE: the first one is left out in every stream";
+        says("but for the first one since the start, which is left out;", "in every stream");
         bytes("start; passes 00; finish; start; pass 0; finish", "127 64");
         bytes("start; passes 11001; start; pass 0; finish", "127 64");
-        sentence = "TO GIVE: then as many of the other bit as are waiting, behind the one that is left out, too";
+        says("then as many of the other bit as are waiting;", "behind the one that is left out, too");
         writer("start; put 0 1", "480 28 1 1 1");
         bytes("start; put 0 1; finish", "254 192");
         writer("start; put 0 1; pass 0", "480 56 0 2 2");
-        sentence = "TO GIVE: none waits then";
+        says("none waits then.");
         writer("start; passes 1100", "510 488 2 4 4");
         writer("start; passes 11001", "510 462 0 5 5");
         writer("start; passes 1100; finish", "256 0 0 11 4");
@@ -320,79 +412,97 @@ public final class SentenceTest {
 
     private static void shifting() {
         String first = "set 1 43 0; set 2 44 0; set 3 31 0; set 4 41 0; start; ";
-        sentence = "TO SHIFT: if low is less than 256, 0 is given (255, and 256, which waits)";
+        says("TO SHIFT: if low is less than 256, 0 is given;", "255");
         writer(first + "put 0 0; put 1 1", "480 480 4 5 2");
-        writer(first + "put 0 0; put 2 1", "448 0 0 5 2");
-        sentence = "TO SHIFT: if it is 512 or more, 1 is given (512, and 511, which waits)";
-        writer(first + "put 0 0; pass 1; put 3 1", "464 496 4 5 3");
+        says("if it is 512 or more, low falls by 512, and 1 is given;", "512");
         writer(first + "pass 1; put 4 1", "448 512 0 5 2");
         writer(first + "pass 1; put 4 1; put 0 0", "416 0 0 6 3");
-        sentence = "It shifts as long as range is less than 256 (255 does, 256 does not)";
+        says("otherwise low falls by 256, and one more bit waits.", "256 and 511 do, and 270");
+        writer(first + "put 0 0; put 2 1", "448 0 0 5 2");
+        writer(first + "put 0 0; pass 1; put 3 1", "464 496 4 5 3");
+        writer("start; put 0 1", "480 28 1 1 1");
+        says("Then range and low double, and shifts grow by 1.");
+        writer("start; put 0 0; put 0 0", "284 0 0 1 2");
+        writer("start; put 0 0; put 0 0; put 0 1", "256 312 0 2 3");
+        says("It shifts as long as range is less than 256.", "255 does, 256 does not");
         writer(first + "put 0 0; put 1 0", "510 0 0 1 2");
         writer(first + "put 0 0; put 2 0", "256 0 0 0 2");
-        reader(first + "put 0 0; put 1 0; finish; load; get 0; get 1", "510 509");
-        reader(first + "put 0 0; put 2 0; finish; load; get 0; get 2", "256 255");
     }
 
-    /** A decision of state 0 behind a range that is reached by marks, an odd one behind a decision of state 62. */
-    private static void quarter(int range, int rangeBehind) {
-        int marks = (range % 2 == 0 ? 510 - range : 501 - range) / 2;
-        String first = "set 1 62 0; start" + (range % 2 == 0 ? "" : "; put 1 0");
-        String written = first + "; " + marks + "* mark";
-        row(written, "engine 0", "" + range);
-        row(written + "; put 0 0", "engine 0", "" + rangeBehind);
-        String read = written + "; put 0 0; finish; load" + (range % 2 == 0 ? "" : "; get 1") + "; " + marks + "* ended";
-        row(read, "engine 5; get 0; engine 5", range + " 0 " + rangeBehind);
+    /** A stream whose range is this, reached by marks; an odd one behind a decision of state 62. */
+    private static String withRange(int range) {
+        return range % 2 == 0 ? "start; " + (510 - range) / 2 + "* mark"
+                : "set 1 62 0; start; put 1 0; " + (501 - range) / 2 + "* mark";
     }
+
+    private static String readBackToRange(int range) {
+        return range % 2 == 0 ? (510 - range) / 2 + "* ended" : "get 1; " + (501 - range) / 2 + "* ended";
+    }
+
+    /** Ranges on both sides of each quarter, and what they are behind a likely decision of state 0. */
+    private static final int[][] QUARTERS = {
+        {510, 270}, {448, 416}, {447, 478}, {384, 352}, {383, 414}, {320, 288}, {319, 382}, {257, 258}, {256, 256},
+    };
 
     private static void decision() {
-        sentence = "A DECISION: q is range / 64 % 4 (rounded down)";
-        quarter(510, 270);
-        quarter(448, 416);
-        quarter(447, 478);
-        quarter(384, 352);
-        quarter(383, 414);
-        quarter(320, 288);
-        quarter(319, 382);
-        quarter(257, 258);
-        quarter(256, 256);
-        sentence = "A DECISION: if the bin is not the likely one, low grows by range, and range is r";
+        says("A DECISION with a context: q is range / 64 % 4 (rounded down),");
+        for (int[] quarter : QUARTERS) {
+            row(withRange(quarter[0]), "engine 0; put 0 0; engine 0", quarter[0] + " done " + quarter[1]);
+        }
+        says("r = R(state, q); range falls by r.");
+        writer("start; put 0 0", "270 0 0 0 1");
+        writer("set 0 20 0; start; put 0 0", "425 0 0 0 1");
+        writer("set 0 62 1; start; put 0 1", "501 0 0 0 1");
+        row("set 0 20 0; " + withRange(256) + "; put 0 0", "engine 0; engine 3", "410 1");
+        says("If the bin is not the likely one, low grows by range, and range is r.");
         writer("set 0 0 1; start; put 0 1", "270 0 0 0 1");
         writer("set 0 0 1; start; put 0 0", "480 28 1 1 1");
+        says("The context learns, and it shifts.");
+        row("start", "put 9 1; about false 9; engine 3; about false 8; about false 10", "done 1 1 0 0");
+        row("start", "put 9 0; about false 9; put 9 0; about false 9; engine 3", "done 2 done 4 1");
     }
 
     private static void goingBy() {
         String first = "set 1 43 0; set 2 41 0; set 3 32 0; set 4 48 0; start; ";
-        sentence = "A bin that GOES BY: if low is less than 512, 0 is given (511, and 512, which waits)";
-        writer(first + "put 0 1; put 1 0; pass 1", "455 511 0 2 3");
-        writer(first + "put 2 1; pass 1", "448 0 5 5 2");
-        sentence = "A bin that GOES BY: if low is 1024 or more, 1 is given (1024, and 1023, which waits)";
-        writer(first + "put 0 0; put 3 1; put 4 0; pass 1", "415 511 4 5 4");
+        says("A bin that GOES BY: low doubles, and if the bin is 1 it grows by range.");
+        writer("start; pass 0", "510 0 0 1 1");
+        writer("start; pass 1", "510 510 0 1 1");
+        writer("start; put 0 1; pass 0", "480 56 0 2 2");
+        writer("start; put 0 1; pass 1", "480 24 2 2 2");
+        says("If low is 1024 or more, 1 is given, and low falls by 1024;", "1024");
         writer(first + "pass 1; put 2 1; pass 0", "448 0 0 6 3");
+        says("if it is less than 512, 0 is given;", "511");
+        writer(first + "put 0 1; put 1 0; pass 1", "455 511 0 2 3");
+        says("otherwise low falls by 512, and one more bit waits.", "512 and 1023 do");
+        writer(first + "put 2 1; pass 1", "448 0 5 5 2");
+        writer(first + "put 0 0; put 3 1; put 4 0; pass 1", "415 511 4 5 4");
+        says("Shifts grow by 1.");
+        row("start", "engine 3; pass 0; engine 3; pass 1; engine 3; pass 1; engine 3; pass 0; engine 3",
+                "0 done 1 done 2 done 3 done 4");
     }
 
     private static void marks() {
-        sentence = "A MARK: range falls by 2, and it shifts (255 and 254 do, 256 does not)";
+        says("A MARK: range falls by 2, and it shifts.", "255 and 254 do, 256 does not");
         String odd = "set 1 46 0; start; put 0 0; put 1 0";
         writer("start; mark", "508 0 0 0 1");
         writer("start; 127* mark", "256 0 0 0 127");
         writer("start; 128* mark", "508 0 0 1 128");
         writer(odd, "257 0 0 0 2");
         writer(odd + "; mark", "510 0 0 1 3");
-        reader("start; 128* mark; finish; load; 127* ended", "256 253");
-        reader("start; 128* mark; finish; load; 128* ended", "508 507");
-        reader(odd + "; mark; finish; load; get 0; get 1; ended", "510 509");
     }
 
     private static void end() {
-        sentence = "THE END: range falls by 2, low grows by range, range is 2, it shifts";
+        says("THE END: range falls by 2, low grows by range, range is 2, it shifts;");
         writer("start; finish", "256 0 0 7 0");
         writer("start; 127* mark; finish", "256 256 0 7 127");
         bytes("start; 127* mark; finish", "127 128");
-        sentence = "THE END: the bits low / 256 % 2 and 1 are written as they are";
+        says("then the bit low / 512 % 2 is given,", "seven ones behind it have waited");
+        bytes("start; finish", "254 128");
+        bytes("start; pass 0; finish", "127 64");
+        says("and the bits low / 256 % 2 and 1 are written as they are.");
         row("set 1 3 0; start; put 0 1; put 1 0; finish", "engine 1; at 0; at 1", "128 203 64");
         row("set 1 4 0; start; put 0 1; put 1 0; finish", "engine 1; at 0; at 1", "384 205 192");
-        sentence = "THE END: bytes hold eight bits each, the first one highest, the last byte filled with 0";
+        says("Bytes hold eight bits each, the first one highest, the last byte filled with 0.");
         bytes("start; passes 000000; finish", "3 250");
         bytes("start; passes 0000000; finish", "1 253");
         bytes("start; passes 00000000; finish", "0 254 128");
@@ -403,41 +513,72 @@ public final class SentenceTest {
     }
 
     private static void readerLoads() {
-        sentence = "THE READER: 510, and the number of the first nine bits";
+        says("THE READER has a RANGE and an OFFSET: when bytes are loaded, 510, and the number of the first nine "
+                + "bits.");
         reader(withBytes(0, 127) + "; load", "510 0");
         reader(withBytes(0, 128) + "; load", "510 1");
         reader(withBytes(128, 0) + "; load", "510 256");
-        sentence = "Behind the last byte come bits 0";
+        says("Behind the last byte come bits 0.");
         reader(withBytes(0, 1) + "; load; 6* getPass", "510 0");
         reader(withBytes(0, 1) + "; load; 7* getPass", "510 1");
         reader(withBytes(0, 1) + "; load; 8* getPass", "510 2");
         reader(withBytes(0, 1) + "; load; 15* getPass", "510 256");
         row(withBytes(0, 1) + "; load; 15* getPass", "getPass; engine 6", "1 2");
-        sentence = "Behind the last byte come bits 0, not those of a longer stream before";
+        says("Behind the last byte come bits 0.", "not those of a longer stream before");
         String longer = loadedPasses("1".repeat(60)) + "; ";
         reader(longer + withBytes(0, 1) + "; load; 15* getPass", "510 256");
         bytes(longer + "start; finish", "254 128");
     }
 
+    private static void readerShifts() {
+        says("TO SHIFT: range doubles, offset doubles and grows by the next bit, as long as range is less than 256.");
+        reader(withBytes(135, 0) + "; load; get 0", "480 0");
+        reader(withBytes(135, 64) + "; load; get 0", "480 1");
+        reader("set 0 62 0; " + withBytes(252, 216) + "; load; get 0", "288 150");
+        String first = "set 1 43 0; set 2 44 0; start; put 0 0; ";
+        reader(first + "put 1 0; finish; load; get 0; get 1", "510 509");
+        reader(first + "put 2 0; finish; load; get 0; get 2", "256 255");
+    }
+
     private static void readerDecides() {
-        sentence = "A decision that is read: if the offset is not less than range, the bin is not the likely one";
+        says("A decision: q, r and range as above;");
+        for (int[] quarter : QUARTERS) {
+            String loaded = withRange(quarter[0]) + "; put 0 0; finish; load; " + readBackToRange(quarter[0]);
+            row(loaded, "engine 5; get 0; engine 5", quarter[0] + " 0 " + quarter[1]);
+        }
+        says("if the offset is not less than range, it falls by range, range is r, and the bin is not the likely one; "
+                + "otherwise it is that.");
         row(withBytes(134, 128) + "; load", "engine 6; get 0; engine 5; engine 6; about true 0", "269 0 270 269 2");
         row(withBytes(135, 0) + "; load", "engine 6; get 0; engine 5; engine 6; about true 0", "270 1 480 0 1");
         row("set 0 0 1; " + withBytes(134, 128) + "; load", "get 0; about true 0", "1 3");
         row("set 0 0 1; " + withBytes(135, 0) + "; load", "get 0; about true 0", "0 0");
-        sentence = "A bin that goes by, read: if the offset is not less than range, the bin is 1";
+        says("It learns and shifts.");
+        row("start; put 9 0; put 9 0; put 9 1; finish; load",
+                "get 9; about true 9; get 9; about true 9; engine 5; get 9; about true 9; engine 5; about true 8",
+                "0 2 0 4 284 1 2 256 0");
+    }
+
+    private static void readerGoesBy() {
+        says("A bin that goes by: offset doubles and grows by the next bit; if it is not less than range, it falls by "
+                + "that, and the bin is 1; otherwise it is 0.");
         row(withBytes(127, 64) + "; load", "engine 6; getPass; engine 5; engine 6", "254 0 510 509");
         row(withBytes(127, 128) + "; load", "engine 6; getPass; engine 5; engine 6", "255 1 510 0");
         row(withBytes(127, 192) + "; load", "engine 6; getPass; engine 5; engine 6", "255 1 510 1");
-        sentence = "A mark or the end: range falls by 2; if the offset is not less, it is THE END";
+        row("start; put 9 1; pass 1; pass 0; finish; load; get 9", "getPass; engine 5; getPass; engine 5; about true 9",
+                "1 480 0 480 1");
+    }
+
+    private static void readerMeetsMarks() {
+        says("A mark or the end: range falls by 2; if the offset is not less, it is THE END;");
         row(withBytes(253, 128) + "; load", "engine 6; ended; engine 5; engine 6", "507 false 508 507");
         row(withBytes(254, 0) + "; load", "engine 6; ended; engine 5; engine 6", "508 true 508 508");
         row(withBytes(253, 128) + "; load; ended", "ended; engine 5; engine 6", "true 506 507");
-        sentence = "A mark or the end: otherwise it shifts (at the end it does not)";
+        says("otherwise it shifts.", "255 and 254 do, 256 does not, and the end does not");
         row("start; 127* mark; finish; load; 127* ended", "engine 5; engine 6; ended; engine 5; engine 6",
                 "256 255 true 254 255");
         row("start; 128* mark; finish; load; 127* ended", "engine 5; engine 6; ended; engine 5; engine 6",
                 "256 253 false 508 507");
+        reader("set 1 46 0; start; put 0 0; put 1 0; mark; finish; load; get 0; get 1; ended", "510 509");
     }
 
     // ---- Numbers as bins
@@ -456,7 +597,7 @@ public final class SentenceTest {
     }
 
     private static void numbers() {
-        sentence = "A number of ORDER k: as long as v is 2^k or more, a bin 1";
+        says("as long as v is 2^k or more, a bin 1, v falls by 2^k, and k grows by 1; then a bin 0;");
         for (int k = 0; k <= 4; k++) {
             int one = 1 << k;
             int two = one + 2 * one;
@@ -465,10 +606,10 @@ public final class SentenceTest {
             oneNumber(k, false, two - 1, "10" + "1".repeat(k + 1));
             oneNumber(k, false, two, "110" + "0".repeat(k + 2));
         }
-        sentence = "then the k lowest bits of v, the highest first";
+        says("then the k lowest bits of v, the highest first.");
         oneNumber(3, false, 6, "0110");
         oneNumber(2, false, 4 + 1, "10001");
-        sentence = "A number v (0 .. 65535)";
+        says("NUMBERS AS BINS. A number v (0 .. 65535)");
         for (int k = 0; k <= 4; k++) {
             int left = (1 << k) - 1;
             oneNumber(k, false, 0, "0" + "0".repeat(k));
@@ -479,17 +620,20 @@ public final class SentenceTest {
         oneNumber(0, false, 65534, "1".repeat(15) + "0" + "1".repeat(15));
         refused(MIDDLE, "golomb 0 false " + LEAST, ARGUMENT);
         refused(MIDDLE, "golomb 0 false " + LAST, ARGUMENT);
-        sentence = "ORDER k (0 .. 4)";
+        says("of ORDER k (0 .. 4),");
         for (int none : new int[] {-1, 5, 31, 32, LEAST, LAST}) {
             refused(MIDDLE, "golomb " + none + " false 0", ARGUMENT);
             refused(MIDDLE, "golomb " + none + " true 0", ARGUMENT);
             refused(MIDDLE, "getGolomb " + none + " false", ARGUMENT);
             refused(MIDDLE, "getGolomb " + none + " true", ARGUMENT);
         }
+        says("all bins going by:");
+        oneNumber(2, false, 9, "10101");
+        row("set 0 7 1; start; golomb 2 false 9", "engine 0; engine 3; engine 4; about false 0", "510 5 5 15");
     }
 
     private static void signed() {
-        sentence = "SIGNED: written as 2 v - 1, if it is above 0, otherwise as -2 v";
+        says("is written as 2 v - 1, if it is above 0, otherwise as -2 v.");
         for (int k = 0; k <= 4; k++) oneNumber(k, true, 0, "0" + "0".repeat(k));
         oneNumber(0, true, 1, "100");
         oneNumber(0, true, -1, "101");
@@ -497,7 +641,7 @@ public final class SentenceTest {
         oneNumber(0, true, -2, "11001");
         oneNumber(4, true, 8, "01111");
         oneNumber(4, true, -8, "1000000");
-        sentence = "SIGNED: v (-32767 .. 32768)";
+        says("SIGNED: v (-32767 .. 32768)");
         for (int k = 0; k <= 4; k++) {
             int left = (1 << k) - 1;
             oneNumber(k, true, 32768, "1".repeat(16 - k) + "0" + bits(16, left));
@@ -508,7 +652,7 @@ public final class SentenceTest {
         oneNumber(1, true, -32767, "1".repeat(15) + "0" + bits(16, 0));
         refused(MIDDLE, "golomb 0 true " + LEAST, ARGUMENT);
         refused(MIDDLE, "golomb 0 true " + LAST, ARGUMENT);
-        sentence = "SIGNED: numbers without a sign keep their own bounds";
+        says("SIGNED: v (-32767 .. 32768)", "others keep their own bounds");
         row("start", "golomb 0 true -1; golomb 0 false 32769; golomb 0 false 32768", "3 31 31");
     }
 
@@ -529,31 +673,31 @@ public final class SentenceTest {
     }
 
     private static void counts() {
-        sentence = "A COUNT v: v bins 1, and then 0, if v is less than m";
+        says("v bins 1, and then 0, if v is less than m;");
         for (int m = 1; m <= 15; m++) {
             oneCount(2, m, m - 1, "1".repeat(m - 1) + "0");
             oneCount(2, m, m, "1".repeat(m));
         }
         oneCount(2, 15, 0, "0");
-        sentence = "decisions with the contexts c, c + 1, c + 2, and c + 3 for all further ones";
+        says("decisions with the contexts c, c + 1, c + 2, and c + 3 for all further ones");
         row("start; unary 4 15 1", "about false 4; about false 5; about false 6; about false 7", "1 2 0 0");
         row("start; unary 4 15 2", "about false 4; about false 5; about false 6; about false 7", "1 1 2 0");
         row("start; unary 4 15 3", "about false 4; about false 5; about false 6; about false 7", "1 1 1 2");
         row("start; unary 4 15 4", "about false 4; about false 5; about false 6; about false 7", "1 1 1 0");
         row("start; unary 4 15 5", "about false 7; about false 8", "1 0");
-        sentence = "c 0 .. 28";
+        says("(c 0 .. 28).");
         oneCount(0, 5, 5, "11111");
         oneCount(28, 5, 5, "11111");
         for (int none : new int[] {-1, 29, 31, 32, LEAST, LAST}) {
             refused(MIDDLE, "unary " + none + " 1 0", INDEX);
             refused(MIDDLE, "getUnary " + none + " 1", INDEX);
         }
-        sentence = "m 1 .. 15";
+        says("(m 1 .. 15):");
         for (int none : new int[] {0, -1, 16, LEAST, LAST}) {
             refused(MIDDLE, "unary 0 " + none + " 0", ARGUMENT);
             refused(MIDDLE, "getUnary 0 " + none, ARGUMENT);
         }
-        sentence = "A COUNT v of at most m";
+        says("A COUNT v of at most m");
         for (int none : new int[] {-1, 5, LEAST, LAST}) refused(MIDDLE, "unary 0 4 " + none, ARGUMENT);
         refused(MIDDLE, "unary 0 1 2", ARGUMENT);
         refused(MIDDLE, "unary 0 15 16", ARGUMENT);
@@ -572,12 +716,12 @@ public final class SentenceTest {
     }
 
     private static void limit() {
-        sentence = "A stream has at most 400 bins";
+        says("A stream has at most 400 bins,");
         row("start; 399* put 0 0", "put 0 0; engine 4; put 0 0; engine 4", "done 400 " + STATE + " 400");
         row("start; 399* pass 0", "pass 0; engine 4; pass 0; engine 4", "done 400 " + STATE + " 400");
-        sentence = "A stream has at most 400 bins, marks among them";
+        says("A stream has at most 400 bins, marks among them.");
         row("start; 399* mark", "mark; engine 4; mark; engine 4", "done 400 " + STATE + " 400");
-        sentence = "A stream has at most 400 bins: just enough room for a call, and one bin less";
+        says("A stream has at most 400 bins,", "just enough room for a call, and one bin less");
         fits("put 0 1", 1);
         fits("pass 1", 1);
         fits("mark", 1);
@@ -592,12 +736,12 @@ public final class SentenceTest {
         fits("unary 0 15 2", 3);
         fits("unary 28 15 14", 15);
         fits("unary 28 15 15", 15);
-        sentence = "Each stream has 400 bins of its own, and the end needs no room";
+        says("A stream has at most 400 bins,", "each of its own, and the end needs no room");
         row(FULL, "finish; engine 4; load", "51 400 true");
         writer(FULL + "; start; mark", "508 0 0 0 1");
-        sentence = "A stream of 400 bins is read to its end";
+        says("A stream has at most 400 bins,", "read to its end");
         row(FULL + "; finish; load; 12* getGolomb 0 false; 3* ended", "getPass; ended", "1 true");
-        sentence = "The limit is the stream's: reading is not refused behind 400 bins";
+        says("A stream has at most 400 bins,", "reading is not refused behind them");
         row(withBytes(0, 0) + "; load; 400* getPass", "getPass; get 0; ended", "0 0 false");
     }
 
@@ -608,18 +752,51 @@ public final class SentenceTest {
                 String most = sign ? "32768" : "65535";
                 String ones = "1".repeat(16 - k);
                 int left = (1 << k) - 1;
-                sentence = "A number is WRONG as soon as the powers for its bins 1 make more than 65535";
+                says("A number that is read is WRONG as soon as the powers for its bins 1 make more than 65535 "
+                        + "together,");
                 wrongNumber(ones + "1", "0110", get);
                 wrongNumber(ones + "1", "1111", get);
                 row(loadedPasses(ones + "0" + bits(16, left)), get, most);
-                sentence = "A number is WRONG if it is above 65535 in the end";
+                says("otherwise if it is above 65535 in the end;");
                 row(loadedPasses(ones + "0" + bits(16, left) + "1"), get + "; getPass; ended", most + " 1 true");
                 wrongNumber(ones + "0" + bits(16, left + 1), "0110", get);
                 wrongNumber(ones + "0" + bits(16, 65535), "1001", get);
             }
         }
-        sentence = "then the reader reads no more, until it loads again";
+        says("then the reader reads no more.", "until it loads again");
         row(loadedPasses("1".repeat(20)) + "; getGolomb 0 false", "getPass; load; getPass", STATE + " true 1");
+    }
+
+    private static void callsThatThrow() {
+        says("A call that throws changes nothing;");
+        for (String call : new String[] {"set 32 0 0", "put -1 1", "unary 29 1 1", "at 0", "alter 0 1", "get 32",
+            "getUnary 29 1", "about true 32"}) {
+            refused(MIDDLE, call, INDEX);
+        }
+        for (String call : new String[] {"set 0 63 1", "set 0 62 2", "put 0 2", "pass 2", "golomb 5 true 1",
+            "golomb 0 false 65536", "unary 0 16 1", "unary 0 1 2", "getGolomb 5 false", "getUnary 0 16", "engine 7"}) {
+            refused(MIDDLE, call, ARGUMENT);
+        }
+        refused(MIDDLE, "load", STATE);
+        for (String call : new String[] {"put 0 1", "pass 1", "golomb 0 true 1", "unary 0 1 1", "mark", "finish"}) {
+            refused(ENDED, call, STATE);
+        }
+        for (String call : new String[] {"get 0", "getPass", "getGolomb 0 true", "getUnary 0 1", "ended"}) {
+            refused("start; put 0 1; finish; load; get 0; ended", call, STATE);
+        }
+        says("where several exceptions that a call names fit, the one named first is thrown.");
+        for (String call : new String[] {"set 32 63 2", "put 32 2", "put 32 1", "unary 29 16 17", "unary 29 1 1",
+            "alter 0 256", "get 32", "getUnary 29 16", "getUnary 29 1"}) {
+            refused("", call, INDEX);
+        }
+        for (String call : new String[] {"put 0 2", "pass 2", "golomb 5 false -1", "unary 0 16 17", "getGolomb 5 false",
+            "getUnary 0 16"}) {
+            refused("", call, ARGUMENT);
+        }
+        says("The constants: `WRONG = 100000`: What is read in the place of a number that is wrong.");
+        due("WRONG", "" + BinStreams.WRONG, "100000");
+        row(loadedPasses("1".repeat(17)), "getGolomb 0 false", "100000");
+        row(loadedPasses("1".repeat(33)), "getGolomb 0 true", "100000");
     }
 
     /** It has read just its own bins then, and no more can be read. */
@@ -635,42 +812,68 @@ public final class SentenceTest {
     // ---- Promises
 
     private static void newObject() {
-        sentence = "promise 1, a new object: all start states 0, likely bins 0; nothing is written or loaded";
+        chapter = "Promise 1";
+        says("All start states 0, likely bins 0;");
+        row("start", "abouts false", "0 ".repeat(32).trim());
+        row("start; finish; load", "abouts true", "0 ".repeat(32).trim());
+        says("nothing is written or loaded.");
         row("", "engines", "0 0 0 0 0 0 0");
         row("", "abouts false", "0 ".repeat(32).trim());
         row("", "abouts true", "0 ".repeat(32).trim());
         row("", "size; at 0; load; getPass; start; finish; load; ended",
                 "0 " + INDEX + " " + STATE + " " + STATE + " done 2 true true");
+        says("nothing is written or loaded.", "though another object has written and loaded");
+        Asked used = after(MIDDLE);
+        Asked fresh = new Asked();
+        due("a new object beside " + MIDDLE, fresh.askAll("engines; size; load; getPass; start; about false 0"),
+                "0 0 0 0 0 0 0 0 " + STATE + " " + STATE + " done 0");
+        due(MIDDLE + " beside a new object", used.askAll("engines; getPass; abouts true"),
+                after(MIDDLE).askAll("engines; getPass; abouts true"));
     }
 
     private static void set() {
-        sentence = "promise 2, set: for writers that start from now on";
+        chapter = "Promise 2";
+        says("The start state and likely bin of a context, for writers that start and readers that load from now on.",
+                "writers");
         row("set 6 30 1", "about false 6; about true 6", "0 0");
         row("set 6 30 1; start", "about false 6; about false 5; about false 7", "61 0 0");
         row("start; set 6 30 1", "about false 6; start; about false 6", "0 done 61");
         row("set 6 30 1; set 6 62 0; start", "about false 6", "124");
         row("set 6 30 1; start; put 6 1; start", "about false 6", "61");
-        sentence = "promise 2, set: for readers that load from now on";
+        says("The start state and likely bin of a context, for writers that start and readers that load from now on.",
+                "readers");
         row("start; finish; set 6 30 1", "about true 6; load; about true 6", "0 true 61");
         row("start; finish; load; set 6 30 1", "about true 6; load; about true 6", "0 true 61");
-        sentence = "promise 2, set: IndexOutOfBoundsException goes before IllegalArgumentException";
+        says("IndexOutOfBoundsException when there is no such context;", "before the other");
         for (int none : new int[] {-1, 32}) {
+            refused(MIDDLE, "set " + none + " 5 1", INDEX);
             refused(MIDDLE, "set " + none + " 63 0", INDEX);
             refused(MIDDLE, "set " + none + " -1 1", INDEX);
             refused(MIDDLE, "set " + none + " 0 2", INDEX);
             refused(MIDDLE, "set " + none + " 63 -1", INDEX);
         }
+        says("IllegalArgumentException when state is not 0 .. 62,");
+        for (String run : new String[] {"", MIDDLE, ENDED}) {
+            for (int none : new int[] {-1, 63}) refused(run, "set 4 " + none + " 1", ARGUMENT);
+        }
         refused(MIDDLE, "set 4 63 2", ARGUMENT);
+        says("or likely no bin.");
+        for (String run : new String[] {"", MIDDLE, ENDED}) {
+            for (int none : new int[] {-1, 2}) refused(run, "set 4 62 " + none, ARGUMENT);
+        }
     }
 
     private static void start() {
-        sentence = "promise 3, start: the writer starts, without bytes; those of the stream before are gone";
+        chapter = "Promise 3";
+        says("The writer starts, without bytes.");
+        row("start", "engine 0; size; at 0; pass 1; finish", "510 0 " + INDEX + " done 2");
+        says("(Those of the stream before are gone;");
         row(ENDED + "; start", "size; at 0; alter 0 0; load",
                 "0 " + INDEX + " " + INDEX + " " + STATE);
         bytes(ENDED + "; start; finish", "254 128");
         bytes(MIDDLE + "; start; finish", "254 128");
         bytes(FULL + "; start; finish", "254 128");
-        sentence = "promise 3, start: what a reader loaded stays";
+        says("what a reader loaded stays.)");
         String loaded = loadedPasses("110010111000101") + "; getPass";
         row(loaded + "; start", "engine 5; engine 6", after(loaded).askAll("engine 5; engine 6"));
         row(loaded + "; start; passes 0000000000", "14* getPass; ended", "1 0 0 1 0 1 1 1 0 0 0 1 0 1 true");
@@ -680,158 +883,202 @@ public final class SentenceTest {
     }
 
     private static void put() {
-        sentence = "promise 4, put: IndexOutOfBoundsException when there is no such context, before all others";
+        chapter = "Promise 4";
+        says("Writes a decision.");
+        writer("start; put 0 0; put 0 0; put 0 1; put 0 1; put 0 1", "256 480 2 4 5");
+        row("set 31 61 1; start; put 31 1; put 31 1; put 31 0; put 0 1; finish; load",
+                "about false 31; about false 0; get 31; get 31; get 31; get 0; ended", "77 1 1 1 0 1 true");
+        says("IndexOutOfBoundsException when there is no such context;", "before all others");
         for (int none : new int[] {-1, 32}) {
             refused(MIDDLE, "put " + none + " 1", INDEX);
             refused(MIDDLE, "put " + none + " 2", INDEX);
             refusedForEach(NOT_WRITING, "put " + none + " 1", INDEX);
             refusedForEach(NOT_WRITING, "put " + none + " -1", INDEX);
         }
-        sentence = "promise 4, put: IllegalArgumentException when bin is none, before IllegalStateException";
+        says("IllegalArgumentException when bin is none;", "before IllegalStateException");
         for (int none : new int[] {-1, 2}) refusedForEach(NOT_WRITING, "put 31 " + none, ARGUMENT);
-        sentence = "promise 4, put: IllegalStateException";
+        says("IllegalStateException when the writer has not started, or has ended, or there would be more than 400 "
+                + "bins.");
         for (int c : new int[] {0, 3, 31}) refusedForEach(NOT_WRITING, "put " + c + " 1", STATE);
         refusedForEach(NOT_WRITING, "put 0 0", STATE);
     }
 
     private static void pass() {
-        sentence = "promise 5, pass: IllegalArgumentException when bin is none, before IllegalStateException";
+        chapter = "Promise 5";
+        says("Writes a bin that goes by.");
+        writer("start; passes 1100", "510 488 2 4 4");
+        row(loadedPasses("1100101"), "7* getPass; ended", "1 1 0 0 1 0 1 true");
+        says("IllegalArgumentException when bin is none;", "before IllegalStateException");
+        for (int none : new int[] {-1, 2}) refused(MIDDLE, "pass " + none, ARGUMENT);
         for (int none : new int[] {-1, 2}) refusedForEach(NOT_WRITING, "pass " + none, ARGUMENT);
-        sentence = "promise 5, pass: IllegalStateException as for put";
+        says("IllegalStateException as for put.");
         refusedForEach(NOT_WRITING, "pass 0", STATE);
         refusedForEach(NOT_WRITING, "pass 1", STATE);
     }
 
     private static void golomb() {
-        sentence = "promise 6, golomb: IllegalArgumentException when order or v are none, before IllegalStateException";
+        chapter = "Promise 6";
+        says("Writes a number of an order, signed or not;");
+        oneNumber(0, false, 13, "1110110");
+        oneNumber(2, true, -5, "10110");
+        oneNumber(1, true, 7, "110111");
+        says("answers how many bins it took.");
+        row("start", "golomb 0 false 0; engine 4; golomb 0 false 13; engine 4; golomb 4 true -8; engine 4",
+                "1 1 7 8 7 15");
+        says("IllegalArgumentException when order or v are none;", "before IllegalStateException");
         for (String none : new String[] {"-1 false 0", "5 false 0", "5 true 0", "0 false -1", "0 false 65536",
             "4 true -32768", "4 true 32769", "5 false -1"}) {
             refused(MIDDLE, "golomb " + none, ARGUMENT);
             refusedForEach(NOT_WRITING, "golomb " + none, ARGUMENT);
         }
-        sentence = "promise 6, golomb: IllegalStateException as for put";
+        says("IllegalStateException as for put.");
         for (String v : new String[] {"0 false 0", "0 false 65535", "4 true -32767", "4 true 32768"}) {
             refusedForEach(NOT_WRITING, "golomb " + v, STATE);
         }
     }
 
     private static void unary() {
-        sentence = "promise 7, unary: IndexOutOfBoundsException when c is not 0 .. 28, before all others";
+        chapter = "Promise 7";
+        says("Writes a count;");
+        oneCount(3, 5, 2, "110");
+        oneCount(3, 5, 5, "11111");
+        says("answers how many bins it took.");
+        row("start", "unary 3 5 2; engine 4; unary 3 5 4; engine 4; unary 3 5 5; engine 4", "3 3 5 8 5 13");
+        says("(All of them, or none if there is no room.)");
+        for (int room = 0; room < 3; room++) refused(filled(400 - room), "unary 0 15 2", STATE);
+        row(filled(397), "unary 0 15 2; engine 4", "3 400");
+        for (int bins = 386; bins < 400; bins++) row(filled(bins), "unary 9 15 15; engine 4", STATE + " " + bins);
+        says("IndexOutOfBoundsException when c is not 0 .. 28;", "before all others");
         for (String none : new String[] {"-1 1 0", "29 1 0", "29 0 0", "29 16 0", "29 4 5", "-1 4 -1", "29 0 5"}) {
             refused(MIDDLE, "unary " + none, INDEX);
             refusedForEach(NOT_WRITING, "unary " + none, INDEX);
         }
-        sentence = "promise 7, unary: IllegalArgumentException when most or v are none, before IllegalStateException";
+        says("IllegalArgumentException when most or v are none;", "before IllegalStateException");
         for (String none : new String[] {"0 0 0", "28 16 0", "28 -1 -1", "0 1 2", "0 15 16", "28 4 -1", "0 16 16"}) {
             refused(MIDDLE, "unary " + none, ARGUMENT);
             refusedForEach(NOT_WRITING, "unary " + none, ARGUMENT);
         }
-        sentence = "promise 7, unary: IllegalStateException as for put";
+        says("IllegalStateException as for put.");
         for (String v : new String[] {"0 1 0", "0 1 1", "28 15 15", "28 15 0"}) {
             refusedForEach(NOT_WRITING, "unary " + v, STATE);
         }
     }
 
     private static void mark() {
-        sentence = "promise 8, mark: IllegalStateException as for put";
-        refusedForEach(NOT_WRITING, "mark", STATE);
-        sentence = "promise 8, mark: it is a bin, and it is no decision and does not go by";
+        chapter = "Promise 8";
+        says("Writes a mark.", "it is a bin, and it is no decision and does not go by");
         writer("start; passes 1100; mark", "508 488 2 4 5");
+        row("set 0 7 1; start; mark; mark; finish; load", "about false 0; ended; ended; ended", "15 false false true");
+        says("IllegalStateException as for put.");
+        refusedForEach(NOT_WRITING, "mark", STATE);
     }
 
     private static void finish() {
-        sentence = "promise 9, finish: answers how many bytes there are";
+        chapter = "Promise 9";
+        says("The end of the stream;");
+        writer("start; finish", "256 0 0 7 0");
+        row("start; pass 1; finish", "put 0 0; pass 0; mark; size", STATE + " " + STATE + " " + STATE + " 2");
+        row("start; pass 1; finish; load", "getPass; ended", "1 true");
+        says("answers how many bytes there are.");
         row("start", "finish; size", "2 2");
         row("start; passes 00000000", "finish; size", "3 3");
-        sentence = "promise 9, finish: IllegalStateException when the writer has not started";
+        says("IllegalStateException when the writer has not started, or has ended.", "has not started");
         refused("", "finish", STATE);
         refused(SETS, "finish", STATE);
-        sentence = "promise 9, finish: IllegalStateException when the writer has ended";
+        says("IllegalStateException when the writer has not started, or has ended.", "has ended");
         refused(ENDED, "finish", STATE);
         refused("start; finish", "finish", STATE);
-        sentence = "promise 9, finish: a writer that has ended may start again";
+        says("IllegalStateException when the writer has not started, or has ended.", "and for no other reason");
         row("start; finish; start", "finish; finish", "2 " + STATE);
+        row(FULL, "finish; engine 4", "51 400");
     }
 
     private static void size() {
-        sentence = "promise 10, size: how many bytes there are; 0 before the writer has ended";
+        chapter = "Promise 10";
+        says("How many bytes there are;");
+        row("start; finish", "size", "2");
+        row("start; finish; alter 1 0; load; ended", "size", "2");
+        row("start; finish; start; passes 00000000; finish", "size", "3");
+        row("start; passes 00000000; finish; start; finish", "size", "2");
+        says("0 before the writer has ended.");
         row("", "size", "0");
         row("start", "size", "0");
         row(filled(400), "size", "0");
-        row("start; finish", "size", "2");
-        row("start; finish; alter 1 0; load; ended", "size", "2");
         row("start; finish; start", "size", "0");
-        row("start; finish; start; passes 00000000; finish", "size", "3");
-        row("start; passes 00000000; finish; start; finish", "size", "2");
     }
 
     private static void at() {
-        sentence = "promise 11, at: byte i";
+        chapter = "Promise 11";
+        says("Byte i.");
         row("start; passes 00000000; finish", "at 0; at 1; at 2", "0 254 128");
-        sentence = "promise 11, at: IndexOutOfBoundsException when there is none";
+        says("IndexOutOfBoundsException when there is none.");
         int size = Integer.parseInt(after(ENDED).ask("size"));
         row(ENDED, "at 0", "77");
         row(ENDED + "; alter " + (size - 1) + " 99", "at " + (size - 1), "99");
         for (int none : new int[] {-1, size, LEAST, LAST}) refused(ENDED, "at " + none, INDEX);
-        sentence = "promise 11, at: there is none before the writer has ended";
+        says("IndexOutOfBoundsException when there is none.", "before the writer has ended");
         refused("", "at 0", INDEX);
         refused(MIDDLE, "at 0", INDEX);
         refused(FULL, "at 0", INDEX);
         refused(ENDED + "; start", "at 0", INDEX);
-        sentence = "promise 11, at: there is none of a longer stream before";
+        says("IndexOutOfBoundsException when there is none.", "of a longer stream before");
         row("start; passes 00000000; finish; start; finish", "at 1; at 2", "128 " + INDEX);
     }
 
     private static void alter() {
-        sentence = "promise 12, alter: byte i becomes b, 0 .. 255";
+        chapter = "Promise 12";
+        says("Byte i becomes b.");
         bytes("start; passes 00000000; finish; alter 0 255", "255 254 128");
         bytes("start; passes 00000000; finish; alter 1 0", "0 0 128");
         bytes("start; passes 00000000; finish; alter 2 255; alter 2 7", "0 254 7");
-        for (int none : new int[] {-1, 256, LEAST, LAST}) {
-            refused(ENDED, "alter 0 " + none, ARGUMENT);
-            refused(ENDED, "alter 1 " + none, ARGUMENT);
-        }
-        sentence = "promise 12, alter: IndexOutOfBoundsException when there is none";
+        row("start; finish; alter 0 0; alter 1 128; load", "engine 6; size", "1 2");
+        says("(What is loaded stays.)");
+        String loaded = loadedPasses("110010111000101") + "; getPass";
+        String altered = loaded + "; alter 0 0; alter 1 0; alter 2 0";
+        row(altered, "engine 5; engine 6", after(loaded).askAll("engine 5; engine 6"));
+        row(altered, "14* getPass; ended", "1 0 0 1 0 1 1 1 0 0 0 1 0 1 true");
+        says("IndexOutOfBoundsException when there is none;");
         int size = Integer.parseInt(after(ENDED).ask("size"));
         for (int none : new int[] {-1, size, LEAST, LAST}) refused(ENDED, "alter " + none + " 5", INDEX);
         refused("", "alter 0 5", INDEX);
         refused(MIDDLE, "alter 0 5", INDEX);
         refused(ENDED + "; start", "alter 0 5", INDEX);
         row("start; passes 00000000; finish; start; finish", "alter 1 5; alter 2 5", "done " + INDEX);
-        sentence = "promise 12, alter: IndexOutOfBoundsException goes before IllegalArgumentException";
+        says("IndexOutOfBoundsException when there is none;", "before the other");
         for (int none : new int[] {-1, size}) {
             refused(ENDED, "alter " + none + " -1", INDEX);
             refused(ENDED, "alter " + none + " 256", INDEX);
         }
         refused("", "alter 0 256", INDEX);
         refused(MIDDLE, "alter 0 -1", INDEX);
-        sentence = "promise 12, alter: what is loaded stays";
-        String loaded = loadedPasses("110010111000101") + "; getPass";
-        String altered = loaded + "; alter 0 0; alter 1 0; alter 2 0";
-        row(altered, "engine 5; engine 6", after(loaded).askAll("engine 5; engine 6"));
-        row(altered, "14* getPass; ended", "1 0 0 1 0 1 1 1 0 0 0 1 0 1 true");
+        says("IllegalArgumentException when b is not 0 .. 255.");
+        for (int none : new int[] {-1, 256, LEAST, LAST}) {
+            refused(ENDED, "alter 0 " + none, ARGUMENT);
+            refused(ENDED, "alter 1 " + none, ARGUMENT);
+        }
     }
 
     private static void load() {
-        sentence = "promise 13, load: answers whether it could: not when the offset is 510 or more";
+        chapter = "Promise 13";
+        says("answers whether it could: not when the offset is 510 or more;");
         row(withBytes(254, 128), "load; engine 5; engine 6; ended", "true 510 509 true");
         row(withBytes(255, 127), "load; engine 5; engine 6", "false 510 510");
         row(withBytes(255, 128), "load; engine 5; engine 6", "false 510 511");
         row(withBytes(0, 0), "load; engine 5; engine 6", "true 510 0");
-        sentence = "promise 13, load: then nothing is loaded, though something was before";
+        says("then nothing is loaded", "though something was before");
         String before = "start; put 2 1; put 2 1; put 2 1; finish; load; get 2; alter 0 255";
         row(before, "get 2; load; get 2; getPass; getGolomb 0 false; getUnary 2 3; ended",
                 "1 false " + (STATE + " ").repeat(5).trim());
-        sentence = "promise 13, load: but range, offset and contexts are as if";
+        says("(but range, offset and contexts are as if).");
         row(before + "; alter 1 0; set 2 50 1; load", "engine 5; engine 6; about true 2; about false 2",
                 "510 510 101 5");
-        sentence = "promise 13, load: what could not be loaded may be loaded when it is altered";
+        says("The reader loads the bytes, as they are now, and starts;", "behind a load that could not");
         row(before + "; load; alter 0 0; alter 1 128", "load; engine 6; getPass", "true 1 0");
-        sentence = "promise 13, load: the reader loads the bytes, as they are now, and starts";
+        says("The reader loads the bytes, as they are now, and starts;");
         row("start; put 2 1; finish; load; get 2; ended", "load; engine 5; about true 2; get 2; ended",
                 "true 510 0 1 true");
         row("start; finish; load; alter 0 1; alter 1 0", "engine 6; load; engine 6", "509 true 2");
-        sentence = "promise 13, load: IllegalStateException when there are no bytes";
+        says("IllegalStateException when there are no bytes.");
         refused("", "load", STATE);
         refused(SETS + "; start; passes 1100", "load", STATE);
         refused(MIDDLE, "load", STATE);
@@ -840,65 +1087,92 @@ public final class SentenceTest {
     }
 
     private static void get() {
-        sentence = "promise 14, get: IndexOutOfBoundsException when there is no such context, before the other";
+        chapter = "Promise 14";
+        says("Reads a decision.");
+        row("set 0 62 1; start; put 0 1; put 0 0; put 0 1; put 1 1; finish; load",
+                "get 0; get 0; get 0; get 1; about true 0; about true 1; ended", "1 0 1 1 79 1 true");
+        says("IndexOutOfBoundsException when there is no such context;", "before the other");
         for (int none : new int[] {-1, 32}) {
             refused(ENDED, "get " + none, INDEX);
             refusedForEach(NOT_READING, "get " + none, INDEX);
         }
-        sentence = "promise 14, get: IllegalStateException";
+        says("IllegalStateException when nothing is loaded, or the reader reads no more.");
         for (int c : new int[] {0, 3, 31}) refusedForEach(NOT_READING, "get " + c, STATE);
     }
 
     private static void getPass() {
-        sentence = "promise 15, getPass: IllegalStateException as for get";
+        chapter = "Promise 15";
+        says("Reads a bin that goes by.");
+        row(loadedPasses("0010111"), "7* getPass; ended", "0 0 1 0 1 1 1 true");
+        says("IllegalStateException as for get.");
         refusedForEach(NOT_READING, "getPass", STATE);
     }
 
     private static void getGolomb() {
-        sentence = "promise 16, getGolomb: IllegalArgumentException when order is none, before IllegalStateException";
+        chapter = "Promise 16";
+        says("Reads a number of an order, signed or not;");
+        row("start; golomb 0 false 13; golomb 3 true -300; golomb 2 true 300; golomb 4 false 0; finish; load",
+                "getGolomb 0 false; getGolomb 3 true; getGolomb 2 true; getGolomb 4 false; ended",
+                "13 -300 300 0 true");
+        row(loadedPasses("1110110"), "getGolomb 0 true; ended", "7 true");
+        says("WRONG when it is.");
+        for (String order : new String[] {"0 false", "0 true", "4 false", "4 true"}) {
+            row(loadedPasses("1".repeat(20)), "getGolomb " + order, "100000");
+        }
+        says("IllegalArgumentException when order is none;", "before IllegalStateException");
         for (String none : new String[] {"-1 false", "-1 true", "5 false", "5 true"}) {
             refused(ENDED, "getGolomb " + none, ARGUMENT);
             refusedForEach(NOT_READING, "getGolomb " + none, ARGUMENT);
         }
-        sentence = "promise 16, getGolomb: IllegalStateException as for get";
+        says("IllegalStateException as for get.");
         for (String order : new String[] {"0 false", "0 true", "4 false", "4 true"}) {
             refusedForEach(NOT_READING, "getGolomb " + order, STATE);
         }
     }
 
     private static void getUnary() {
-        sentence = "promise 17, getUnary: IndexOutOfBoundsException when c is not 0 .. 28, before all others";
+        chapter = "Promise 17";
+        says("Reads a count.");
+        row("start; unary 0 15 0; unary 28 15 15; unary 3 4 4; unary 3 4 3; finish; load",
+                "getUnary 0 15; getUnary 28 15; getUnary 3 4; getUnary 3 4; ended", "0 15 4 3 true");
+        says("IndexOutOfBoundsException when c is not 0 .. 28;", "before all others");
         for (String none : new String[] {"-1 1", "29 15", "29 0", "-1 16"}) {
             refused(ENDED, "getUnary " + none, INDEX);
             refusedForEach(NOT_READING, "getUnary " + none, INDEX);
         }
-        sentence = "promise 17, getUnary: IllegalArgumentException when most is none, before IllegalStateException";
+        says("IllegalArgumentException when most is none;", "before IllegalStateException");
         for (String none : new String[] {"0 0", "28 16", "0 -1"}) {
             refused(ENDED, "getUnary " + none, ARGUMENT);
             refusedForEach(NOT_READING, "getUnary " + none, ARGUMENT);
         }
-        sentence = "promise 17, getUnary: IllegalStateException as for get";
+        says("IllegalStateException as for get.");
         for (String count : new String[] {"0 1", "0 15", "28 1", "28 15"}) {
             refusedForEach(NOT_READING, "getUnary " + count, STATE);
         }
     }
 
     private static void ended() {
-        sentence = "promise 18, ended: whether it is the end; then the reader reads no more";
-        row("start; mark; finish; load", "ended; ended; ended", "false true " + STATE);
+        chapter = "Promise 18";
+        says("Reads a mark or the end: whether it is the end;");
+        row("start; mark; finish; load", "ended; ended", "false true");
+        row("start; finish; load", "ended", "true");
         row("start; mark; finish; load; ended", "getPass", "1");
+        says("then the reader reads no more.");
+        row("start; mark; finish; load; ended; ended", "ended; get 0; getPass; getGolomb 0 true; getUnary 0 1",
+                (STATE + " ").repeat(5).trim());
         row("start; finish; load; ended", "getPass; load; ended", STATE + " true true");
-        sentence = "promise 18, ended: IllegalStateException as for get";
+        says("IllegalStateException as for get.");
         refusedForEach(NOT_READING, "ended", STATE);
     }
 
     private static void about() {
-        sentence = "promise 19, about: twice its state, and 1 more when 1 is likely";
+        chapter = "Promise 19";
+        says("Of a context, of the writer or the reader: twice its state, and 1 more when 1 is likely.");
         String sets = "set 0 0 0; set 1 0 1; set 2 62 0; set 31 62 1; start";
         row(sets, "about false 0; about false 1; about false 2; about false 31", "0 1 124 125");
         row(sets, "about true 0; about true 1; about true 2; about true 31", "0 0 0 0");
         row(sets + "; finish; load", "about true 0; about true 1; about true 2; about true 31", "0 1 124 125");
-        sentence = "promise 19, about: IndexOutOfBoundsException when there is no such context";
+        says("IndexOutOfBoundsException when there is no such context.");
         for (String run : new String[] {"", MIDDLE, ENDED, FULL}) {
             for (int none : new int[] {-1, 32}) {
                 refused(run, "about false " + none, INDEX);
@@ -908,18 +1182,22 @@ public final class SentenceTest {
     }
 
     private static void engine() {
-        sentence = "promise 20, engine: all 0 at first (contexts, too, have state 0)";
+        chapter = "Promise 20";
+        says("What = 0 the writer's range, 1 its low, 2 how many bits wait, 3 its shifts, 4 its bins, 5 the reader's "
+                + "range, 6 its offset;");
+        row("start; finish; load; start; passes 1100", "engines", "510 488 2 4 4 510 509");
+        row("start; finish; load; start; passes 1100; mark; finish", "engines", "256 256 0 11 5 510 509");
+        says("all 0 at first (contexts, too, have state 0).");
         row("", "engines", "0 0 0 0 0 0 0");
         row(SETS, "engines; about false 0; about true 31", "0 0 0 0 0 0 0 0 0");
-        sentence = "promise 20, engine: each of what's numbers";
-        row("start; finish; load; start; passes 1100", "engines", "510 488 2 4 4 510 509");
-        sentence = "promise 20, engine: IllegalArgumentException when what is none of these";
+        says("IllegalArgumentException when what is none of these.");
         for (String run : new String[] {"", MIDDLE, ENDED}) {
             for (int none : new int[] {-1, 7, LEAST, LAST}) refused(run, "engine " + none, ARGUMENT);
         }
     }
 
     private static void terms() {
+        chapter = "Terms";
         bins();
         contexts();
         states();
@@ -932,12 +1210,16 @@ public final class SentenceTest {
         marks();
         end();
         readerLoads();
+        readerShifts();
         readerDecides();
+        readerGoesBy();
+        readerMeetsMarks();
         numbers();
         signed();
         counts();
         limit();
         wrongNumbers();
+        callsThatThrow();
     }
 
     private static void promises() {
@@ -963,9 +1245,63 @@ public final class SentenceTest {
         engine();
     }
 
-    public static void main(String[] args) {
+    // ---- The quotes and the document
+
+    /** What the document says in words, chapter by chapter; a signature in a promise is FaceTest's. */
+    private static Map<String, String> chaptersOfDocument() throws IOException {
+        Map<String, String> all = new TreeMap<>();
+        for (String part : Files.readString(DOCUMENT).split("(?m)^## ")) {
+            int end = part.indexOf('\n');
+            String name = part.substring(0, end).replaceFirst(":.*", "");
+            String text = part.substring(end).replaceAll("(?m)^```.*$", "").replaceAll("\\s+", " ").trim();
+            all.put(name, name.startsWith("Promise") ? text.replaceFirst("^`[^`]*`: ", "") : text);
+        }
+        all.keySet().removeAll(ELSEWHERE);
+        return all;
+    }
+
+    private static void fault(String text) {
+        wrong++;
+        System.out.println(text);
+    }
+
+    /** Blanks stand for what has a test. */
+    private static void layOver(Map<String, String> said, Map<String, StringBuilder> left, Quote quote) {
+        String text = said.getOrDefault(quote.chapter(), "");
+        int at = text.indexOf(quote.text());
+        if (at < 0 || at != text.lastIndexOf(quote.text())) {
+            fault("the document does not say just once: " + quote);
+            return;
+        }
+        int end = at + quote.text().length();
+        left.get(quote.chapter()).replace(at, end, " ".repeat(end - at));
+    }
+
+    private static void eachSentenceHasRows() throws IOException {
+        if (!Files.exists(DOCUMENT)) {
+            System.out.println("the document is not there, so the quotes are not compared with it");
+            return;
+        }
+        Map<String, String> said = chaptersOfDocument();
+        Map<String, StringBuilder> left = new TreeMap<>();
+        said.forEach((name, text) -> left.put(name, new StringBuilder(text)));
+        for (int i = 0; i < QUOTES.size(); i++) {
+            int rowsBehind = i + 1 < QUOTES.size() ? QUOTES.get(i + 1).rowsBefore() : rows;
+            if (rowsBehind == QUOTES.get(i).rowsBefore()) fault("there are no rows for " + QUOTES.get(i));
+            layOver(said, left, QUOTES.get(i));
+        }
+        left.forEach((name, text) -> {
+            String rest = text.toString().replaceFirst(TABLES, "").replace(FREE, "").trim();
+            if (!rest.isEmpty()) fault("there is no test for what " + name + " says: " + rest);
+        });
+    }
+
+    public static void main(String[] args) throws IOException {
+        whatItIs();
+        calls();
         terms();
         promises();
+        eachSentenceHasRows();
         System.out.println(wrong == 0 ? "the sentences hold, in " + rows + " rows" : wrong + " rows are not as due");
         if (wrong != 0) System.exit(1);
     }
